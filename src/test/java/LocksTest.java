@@ -8,6 +8,7 @@ public final class LocksTest {
         lockRings();
         lockAlongAChain();
         chainOverAllLocks();
+        everyTaskPassesOn();
         unlock();
         unlockThrows();
         owner();
@@ -157,6 +158,17 @@ public final class LocksTest {
             calls.append("told " + (turn == 0 ? 0 : 15) + " 2 = 200\n");
             calls.append("lock 7 = throws.IllegalArgumentException\n");
             RUNS.run("promise 4, a chain over all locks", 8, 0, 0, calls.toString());
+        }
+    }
+
+    private static void everyTaskPassesOn() {
+        for (int waiter = 0; waiter < 16; waiter++) {
+            int owner = 15 - waiter;
+            RUNS.run("promise 4, " + waiter + " waits for " + owner, 1, 0, 0,
+                    "create " + owner + " 3 = " + owner + "\n lock 0 = 0\n"
+                    + "create " + waiter + " 8 = " + waiter + "\n lock 0 = 1\n"
+                    + "told " + owner + " 2 = 8\n told " + owner + " 1 = 3\n running = " + owner + "\n"
+                    + "first 2 0 = " + waiter + "\n unlock 0 = " + waiter + "\n told " + owner + " 2 = 3\n");
         }
     }
 

@@ -19,6 +19,7 @@ public final class WaitsTest {
         sleepThrows();
         tick();
         tickWakesInOrder();
+        tickWakesAll();
         tickThrows();
         RUNS.finish();
     }
@@ -406,6 +407,18 @@ public final class WaitsTest {
             tick 1000 = 2
             running = 1
             """);
+    }
+
+    private static void tickWakesAll() {
+        StringBuilder calls = new StringBuilder();
+        for (int task = 0; task < 16; task++) {
+            calls.append("create " + task + " 5 = " + task + "\n sleep " + (16 - task) + " = -1\n");
+        }
+        calls.append("tick 16 = 16\n");
+        for (int task = 15; task >= 0; task--) {
+            calls.append("running = " + task + "\n end = " + (task - 1) + "\n");
+        }
+        RUNS.run("promise 12, all sixteen", 0, 0, 0, calls.toString());
     }
 
     private static void tickThrows() {
