@@ -15,21 +15,40 @@ final class Runs {
 
     /** Runs the calls on a new core of so many locks, counters and boxes, and prints what is not as due. */
     void run(String name, int locks, int counters, int boxes, String calls) {
-        PriorityCore core = new PriorityCore(locks, counters, boxes);
+        Room room = new Room(locks, counters, boxes);
+        PriorityCore core = room.core(List.of());
+        List<String> all = new ArrayList<>();
         List<String> done = new ArrayList<>();
         for (String line : linesOf(calls)) {
-            int sign = line.indexOf('=');
-            if (sign < 0) {
-                throw new IllegalArgumentException("a line without an answer: " + line);
-            }
-            String call = line.substring(0, sign).trim();
+            String call = callOf(line);
             String answer = answer(core, call);
-            due(name + ": " + call, answer, line.substring(sign + 1).trim());
+            due(name + ": " + call, answer, answerOf(line));
+            all.add(call);
             if (!answer.startsWith("throws.")) {
                 done.add(call);
             }
         }
-        checkThatThrowingChangedNothing(name, core, new PriorityCore(locks, counters, boxes), done);
+        if (done.size() < all.size()) {
+            due(name + ": the state without the calls that throw", room.shownBehind(all), room.shownBehind(done));
+        }
+    }
+
+    /** Each of the refused calls alone, behind the first ones: it answers as due, and has changed nothing. */
+    void refused(String name, int locks, int counters, int boxes, String first, String refused) {
+        run(name, locks, counters, boxes, first);
+        Room room = new Room(locks, counters, boxes);
+        List<String> before = new ArrayList<>();
+        for (String line : linesOf(first)) {
+            before.add(callOf(line));
+        }
+        String unchanged = room.shownBehind(before);
+        for (String line : linesOf(refused)) {
+            String call = callOf(line);
+            due(name + ": " + call, answer(room.core(before), call), answerOf(line));
+            List<String> with = new ArrayList<>(before);
+            with.add(call);
+            due(name + ": the state behind " + call, room.shownBehind(with), unchanged);
+        }
     }
 
     void due(String what, String got, String want) {
@@ -100,12 +119,37 @@ final class Runs {
         return calls;
     }
 
-    private void checkThatThrowingChangedNothing(
-            String name, PriorityCore core, PriorityCore fresh, List<String> done) {
-        for (String call : done) {
-            answer(fresh, call);
+    /** So many locks, counters and boxes, from which cores are made alike. */
+    private record Room(int locks, int counters, int boxes) {
+        PriorityCore core(List<String> calls) {
+            PriorityCore core = new PriorityCore(locks, counters, boxes);
+            for (String call : calls) {
+                answer(core, call);
+            }
+            return core;
         }
-        due(name + ": the state without the calls that throw", snapshot(core), snapshot(fresh));
+
+        /** What can be asked behind the calls, and what shows later; each of a new core, to stay within 512 calls. */
+        String shownBehind(List<String> calls) {
+            return snapshot(core(calls)) + "\n" + Aftermath.ofTheOrder(core(calls)) + "\n"
+                    + Aftermath.ofTheBoxes(core(calls));
+        }
+    }
+
+    private static String callOf(String line) {
+        return line.substring(0, signIn(line)).trim();
+    }
+
+    private static String answerOf(String line) {
+        return line.substring(signIn(line) + 1).trim();
+    }
+
+    private static int signIn(String line) {
+        int sign = line.indexOf('=');
+        if (sign < 0) {
+            throw new IllegalArgumentException("a line without an answer: " + line);
+        }
+        return sign;
     }
 
     private static List<String> linesOf(String calls) {

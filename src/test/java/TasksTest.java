@@ -1,10 +1,8 @@
-/** Promises 1, 2, 3, 11, 13, 14 and 19: tasks, their priorities, and which one runs. */
+/** Promises 2, 3, 11, 13, 14 and 19: tasks, their priorities, and which one runs. */
 public final class TasksTest {
     private static final Runs RUNS = new Runs();
 
     public static void main(String[] args) {
-        newObject();
-        numbersOfAKind();
         create();
         createThrows();
         priority();
@@ -18,47 +16,6 @@ public final class TasksTest {
         clear();
         clearBringsStampsInOrder();
         RUNS.finish();
-    }
-
-    private static void newObject() {
-        StringBuilder calls = new StringBuilder("running = -1\n");
-        for (int task = 0; task < 16; task++) {
-            for (int what = 0; what < 7; what++) {
-                calls.append("told " + task + " " + what + " = " + (what == 3 ? -1 : 0) + "\n");
-            }
-        }
-        for (int k = 0; k < 8; k++) {
-            calls.append("owner " + k + " = -1\n count " + k + " = 0\n words " + k + " = 0\n");
-            for (int kind = 2; kind < 6; kind++) {
-                calls.append("first " + kind + " " + k + " = -1\n");
-            }
-        }
-        RUNS.run("promise 1", 8, 8, 8, calls.toString());
-    }
-
-    private static void numbersOfAKind() {
-        int[] asked = {0, 1, 3, 7, 8, 9, 100, Integer.MAX_VALUE, -1, -8, Integer.MIN_VALUE};
-        int[] had = {0, 1, 3, 7, 8, 8, 8, 8, 0, 0, 0};
-        for (int i = 0; i < asked.length; i++) {
-            RUNS.run("promise 1, locks", asked[i], 2, 5, bounds(had[i], 2, 5));
-            RUNS.run("promise 1, counters", 5, asked[i], 2, bounds(5, had[i], 2));
-            RUNS.run("promise 1, boxes", 2, 5, asked[i], bounds(2, 5, had[i]));
-        }
-    }
-
-    private static String bounds(int locks, int counters, int boxes) {
-        return bound("owner", locks, -1) + bound("count", counters, 0) + bound("words", boxes, 0)
-                + bound("first 2", locks, -1) + bound("first 3", counters, -1)
-                + bound("first 4", boxes, -1) + bound("first 5", boxes, -1);
-    }
-
-    private static String bound(String call, int many, int answer) {
-        StringBuilder calls = new StringBuilder();
-        for (int k = -1; k < 10; k++) {
-            calls.append(call + " " + k + " = "
-                    + (k >= 0 && k < many ? answer : "throws.IndexOutOfBoundsException") + "\n");
-        }
-        return calls.toString();
     }
 
     private static void create() {

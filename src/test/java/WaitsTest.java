@@ -97,14 +97,6 @@ public final class WaitsTest {
             up 2147483647 = throws.IndexOutOfBoundsException
             up -2147483648 = throws.IndexOutOfBoundsException
             """);
-        // 512 calls cannot bring a counter to 1000: this goes beyond them, to see the guard all the same.
-        PriorityCore core = new PriorityCore(0, 1, 0);
-        for (int i = 0; i < 1000; i++) {
-            RUNS.due("promise 7: up 0, the " + i + "th", Runs.answer(core, "up 0"), "-1");
-        }
-        RUNS.due("promise 7: count 0", Runs.answer(core, "count 0"), "1000");
-        RUNS.due("promise 7: up 0 at 1000", Runs.answer(core, "up 0"), "throws.UnsupportedOperationException");
-        RUNS.due("promise 7: count 0 behind it", Runs.answer(core, "count 0"), "1000");
     }
 
     private static void count() {
