@@ -1,8 +1,11 @@
 import java.util.Random;
 
-/** Long runs of mixed calls: each answer, and all that can be asked at the end, is that of the model. */
+/**
+ * Long runs of mixed calls: each answer, and all that can be asked at the end, is that of the model. Two cores are
+ * used by turns, for what is done with one must not be seen in another.
+ */
 public final class ModelTest {
-    private static final int RUNS_OF_CALLS = 3000;
+    private static final int RUNS_OF_CALLS = 1500;
     // With the snapshot at the end a run stays within the document's 512 calls.
     private static final int CALLS = 340;
 
@@ -27,19 +30,41 @@ public final class ModelTest {
     }
 
     private void oneRun(int run) {
-        int locks = random.nextInt(9);
-        int counters = random.nextInt(4);
-        int boxes = random.nextInt(4);
         tasks = 1 + random.nextInt(16);
         priorities = random.nextBoolean() ? 3 : 255;
         ticks = random.nextBoolean() ? 3 : 1000;
-        PriorityCore core = new PriorityCore(locks, counters, boxes);
-        Model model = new Model(locks, counters, boxes);
+        Pair[] pairs = {anyPair(), anyPair()};
         for (int i = 0; i < CALLS; i++) {
-            String call = anyCall(locks, counters, boxes);
-            runs.due("run " + run + ", call " + i + ": " + call, Runs.answer(core, call), model.answer(call));
+            for (Pair pair : pairs) {
+                String call = anyCall(pair.locks, pair.counters, pair.boxes);
+                runs.due("run " + run + ", call " + i + ": " + call,
+                        Runs.answer(pair.core, call), pair.model.answer(call));
+            }
         }
-        runs.due("run " + run + ": the end", Runs.snapshot(core), Runs.snapshot(model::answer));
+        for (Pair pair : pairs) {
+            runs.due("run " + run + ": the end", Runs.snapshot(pair.core), Runs.snapshot(pair.model::answer));
+        }
+    }
+
+    private Pair anyPair() {
+        return new Pair(random.nextInt(9), random.nextInt(4), random.nextInt(4));
+    }
+
+    /** A core and the model of it, of as many locks, counters and boxes. */
+    private static final class Pair {
+        final int locks;
+        final int counters;
+        final int boxes;
+        final PriorityCore core;
+        final Model model;
+
+        Pair(int locks, int counters, int boxes) {
+            this.locks = locks;
+            this.counters = counters;
+            this.boxes = boxes;
+            core = new PriorityCore(locks, counters, boxes);
+            model = new Model(locks, counters, boxes);
+        }
     }
 
     private String anyCall(int locks, int counters, int boxes) {
